@@ -278,7 +278,7 @@ public final class QueueDisk {
             return false;
         }
         // No data at all are whole sectors, and none of those is off the disk.
-        return wanted == 0 || sector >= 0 && sector <= sectorCount - wanted;
+        return wanted == 0 || (sector >= 0 && sector <= sectorCount - wanted);
     }
 
     /** A row of bytes that can be asked for any place without harm. */
@@ -306,7 +306,7 @@ public final class QueueDisk {
         long number(long place, int size) {
             long n = 0;
             for (int k = size - 1; k >= 0; k--) {
-                n = n << 8 | at(place + k);
+                n = (n << 8) | at(place + k);
             }
             return n;
         }
@@ -329,6 +329,7 @@ public final class QueueDisk {
     /** How the queue was set up, and how far the device has come in it. */
     private static final class Queue {
         private static final int MOST = 16;
+        private static final long LOWER_HALF = 4294967295L;
 
         private int size = MOST;
         private boolean ready;
@@ -389,11 +390,11 @@ public final class QueueDisk {
         }
 
         private static long withLower(long address, int v) {
-            return address >>> 32 << 32 | v & 4294967295L;
+            return (address & ~LOWER_HALF) | (v & LOWER_HALF);
         }
 
         private static long withUpper(long address, int v) {
-            return (long) v << 32 | address & 4294967295L;
+            return ((long) v << 32) | (address & LOWER_HALF);
         }
 
         boolean lookAtOffers(Bytes memory) {
@@ -407,12 +408,12 @@ public final class QueueDisk {
         }
 
         int ahead() {
-            return offerCount - taken & COUNT_MASK;
+            return (offerCount - taken) & COUNT_MASK;
         }
 
         // A size is a power of two, so that a mask is the modulo.
         private int slot(int count) {
-            return count & size - 1;
+            return count & (size - 1);
         }
 
         long blockPlace(int number) {
@@ -439,8 +440,8 @@ public final class QueueDisk {
             long place = answerPlace();
             memory.putNumber(place, 4, number);
             memory.putNumber(place + 4, 4, written);
-            taken = taken + 1 & COUNT_MASK;
-            told = told + 1 & COUNT_MASK;
+            taken = (taken + 1) & COUNT_MASK;
+            told = (told + 1) & COUNT_MASK;
             memory.putNumber(answerCountPlace(), 2, told);
         }
     }
@@ -486,7 +487,7 @@ public final class QueueDisk {
 
         private boolean take(Bytes memory, long place, long length, int marks) {
             boolean open = (marks & MARK_OPEN) != 0;
-            if ((marks & MARK_REFUSED) != 0 || !open && closed < count) {
+            if ((marks & MARK_REFUSED) != 0 || (!open && closed < count)) {
                 return false;
             }
             if (length != 0 && !memory.holds(place, length)) {

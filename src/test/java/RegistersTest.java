@@ -9,6 +9,7 @@ public final class RegistersTest {
         readyKeepsTheQueue();
         sizes();
         reset();
+        halvesOfPlaces();
         Check.end();
     }
 
@@ -217,6 +218,39 @@ public final class RegistersTest {
             n.two(4, 0);
             n.offerAndKick(0);
             n.expectBroken("place " + left + " is 0 after a reset");
+        }
+    }
+
+    /** Each half of a place is kept by itself, all its bits count, and a reset clears both. */
+    private static void halvesOfPlaces() {
+        int[] lowers = {128, 144, 160};
+        for (int lower : lowers) {
+            for (int bit = 0; bit < 32; bit++) {
+                Machine m = new Machine(1, 4);
+                m.disk.write(68, 0);
+                m.disk.write(lower + 4, 1 << bit);
+                m.disk.write(68, 1);
+                m.two(4, 0);
+                m.offerAndKick(0);
+                m.expectBroken("bit " + bit + " of " + (lower + 4));
+            }
+            Machine m = new Machine(1, 4);
+            m.disk.write(68, 0);
+            m.disk.write(lower + 4, -1);
+            m.disk.write(lower + 4, 0);
+            m.disk.write(68, 1);
+            serves(m, "the lower half of " + lower + " stays");
+            m = new Machine(1, 4);
+            m.disk.write(68, 0);
+            m.disk.write(lower + 4, -1);
+            m.disk.write(112, 0);
+            m.disk.write(56, 4);
+            m.disk.write(128, (int) Machine.BLOCKS);
+            m.disk.write(144, (int) Machine.OFFERS);
+            m.disk.write(160, (int) Machine.ANSWERS);
+            m.disk.write(68, 1);
+            m.disk.write(112, 15);
+            serves(m, "a reset clears " + (lower + 4));
         }
     }
 }

@@ -18,9 +18,11 @@ public final class RequestTest {
         sectorWithoutSign();
         flush();
         name();
+        longNameInPieces();
         unknownKinds();
         otherBlocksAreLeft();
         longHead();
+        shortBehindLong();
         Check.end();
     }
 
@@ -78,7 +80,8 @@ public final class RequestTest {
     }
 
     private static void writesSectors() {
-        Machine m = new Machine(4, 8);
+        Machine m = new Machine(5, 8);
+        m.disk.setDisk(2048, 123);
         for (int k = 0; k < 1024; k++) {
             m.disk.store(DATA + k, 1, pattern(k));
         }
@@ -89,6 +92,7 @@ public final class RequestTest {
             Check.same("written byte " + k, m.disk.disk(1024 + k), pattern(k));
         }
         Check.same("before", m.disk.disk(1023), 0);
+        Check.same("behind", m.disk.disk(2048), 123);
         Check.same("result", m.result(), 0);
         Check.same("length", m.answerLength(0), 1);
         Check.same("changed", m.disk.changed(), 2);
@@ -255,6 +259,25 @@ public final class RequestTest {
         Check.same("length", m.answerLength(0), 7);
     }
 
+    /** Twenty bytes are the most also where they are put into several blocks. */
+    private static void longNameInPieces() {
+        Machine m = new Machine(1, 8);
+        for (int k = 0; k < 40; k += 8) {
+            m.disk.store(DATA + k, 8, -1);
+        }
+        m.head(HEADS, 8, 0);
+        m.block(0, HEADS, 16, NEXT, 1);
+        m.block(1, DATA, 15, NEXT | OPEN, 2);
+        m.block(2, DATA + 16, 15, NEXT | OPEN, 3);
+        m.block(3, DATA + 32, 8, OPEN, 0);
+        m.offerAndKick(0);
+        Check.same("first piece", m.disk.load(DATA + 8, 8), 0xFFL << 56);
+        Check.same("second piece", m.disk.load(DATA + 16, 8), 0xFFFFFFL << 40);
+        Check.same("second piece's rest", m.disk.load(DATA + 24, 8), -1);
+        Check.same("third piece", m.disk.load(DATA + 32, 8), 0x00FFFFFFFFFFFFFFL);
+        Check.same("length", m.answerLength(0), 21);
+    }
+
     private static void unknownKinds() {
         int[] kinds = {2, 3, 5, 7, 9, 16, 256, 65536, 1 << 24, -1, Integer.MIN_VALUE, 1 << 31 | 1};
         for (int kind : kinds) {
@@ -307,5 +330,34 @@ public final class RequestTest {
         m.expectAnswered("long head", 1);
         Check.same("no data in it", m.disk.changed(), 0);
         Check.same("disk", m.disk.disk(0), 0);
+    }
+
+    /** What a longer request left in the device is no part of a shorter one behind it. */
+    private static void shortBehindLong() {
+        int[] kinds = {0, 1, 8};
+        for (int kind : kinds) {
+            Machine m = new Machine(3, 8);
+            m.head(HEADS, 4, 0);
+            for (int k = 0; k < 7; k++) {
+                m.block(k, HEADS, 512, NEXT, k + 1);
+            }
+            m.block(7, DATA, 512, OPEN, 0);
+            m.offerAndKick(0);
+            for (int k = 0; k < 7; k++) {
+                m.block(k, DATA, 500, NEXT | OPEN, k + 1);
+            }
+            m.block(0, HEADS, 512, NEXT, 1);
+            m.offerAndKick(0);
+            m.disk.store(DATA, 8, -1);
+            m.disk.setDisk(0, 44);
+            m.two(kind, 0);
+            m.offerAndKick(0);
+            m.expectAnswered("short one of kind " + kind, 3);
+            Check.same("result", m.result(), 0);
+            Check.same("length", m.answerLength(2), 1);
+            Check.same("changed", m.disk.changed(), 0);
+            Check.same("data", m.disk.load(DATA, 8), -1);
+            Check.same("disk", m.disk.disk(0), 44);
+        }
     }
 }
