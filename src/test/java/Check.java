@@ -7,10 +7,35 @@ final class Check {
     static final Class<?> BOUNDS = IndexOutOfBoundsException.class;
     static final Class<?> ARGUMENT = IllegalArgumentException.class;
 
+    private static final int MOST_SECONDS = 120;
+
     private static int wrong = 0;
     private static int seen = 0;
 
+    private static boolean watched = false;
+
     private Check() {
+    }
+
+    /** Called with every new object, for a test may hang before its first answer is looked at. */
+    static void watch() {
+        if (!watched) {
+            watched = true;
+            Thread guard = new Thread(Check::endInTime);
+            guard.setDaemon(true);
+            guard.start();
+        }
+    }
+
+    /** A call that does not end has to fail the test, and not to hold it up for ever. */
+    private static void endInTime() {
+        try {
+            Thread.sleep(1000L * MOST_SECONDS);
+        } catch (InterruptedException e) {
+            return;
+        }
+        System.out.println("not ended after " + MOST_SECONDS + " seconds");
+        Runtime.getRuntime().halt(1);
     }
 
     static void same(String what, long got, long due) {

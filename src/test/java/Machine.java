@@ -1,4 +1,4 @@
-/** A QueueDisk with its queue set up, and the hand moves of a driver. */
+/** A device with its queue set up, and the hand moves of a driver. */
 final class Machine {
     static final long START = 1L << 31;
     static final long END = START + 65536;
@@ -6,16 +6,20 @@ final class Machine {
     static final long OFFERS = START + 0x2000;
     static final long ANSWERS = START + 0x3000;
     static final long HEADS = START + 0x4000;
-    static final long DATA = START + 0x5000;
     static final long RESULT = START + 0x4800;
+    static final long DATA = START + 0x5000;
     static final int NEXT = 1;
     static final int OPEN = 2;
+    static final int READ = 0;
+    static final int WRITE = 1;
+    static final int FLUSH = 4;
+    static final int NAME = 8;
 
-    final QueueDisk disk;
+    final Device disk;
     final int size;
+    final long blocks;
     final long offers;
     final long answers;
-    final long blocks;
     private int offered = 0;
 
     Machine(int sectors, int size) {
@@ -23,21 +27,26 @@ final class Machine {
     }
 
     Machine(int sectors, int size, long blocks, long offers, long answers) {
-        disk = new QueueDisk(sectors);
+        disk = new Device(sectors);
         this.size = size;
         this.blocks = blocks;
         this.offers = offers;
         this.answers = answers;
         setUp();
+    }
+
+    /** All that has to be written to a new or reset device before it works. */
+    void setUp() {
+        disk.write(56, size);
+        setPlaces();
+        disk.write(68, 1);
         disk.write(112, 15);
     }
 
-    void setUp() {
-        disk.write(56, size);
+    void setPlaces() {
         setAddress(128, blocks);
         setAddress(144, offers);
         setAddress(160, answers);
-        disk.write(68, 1);
     }
 
     void setAddress(int offset, long address) {
@@ -46,10 +55,12 @@ final class Machine {
     }
 
     void block(int k, long address, long length, int marks, int next) {
-        disk.store(blocks + 16L * k, 8, address);
-        disk.store(blocks + 16L * k + 8, 4, length);
-        disk.store(blocks + 16L * k + 12, 2, marks);
-        disk.store(blocks + 16L * k + 14, 2, next);
+        blockAt(blocks + 16L * k, address, length, marks, next);
+    }
+
+    void blockAt(long place, long address, long length, int marks, int next) {
+        disk.store(place, 8, address);
+        disk.store(place + 8, 8, length & 0xFFFFFFFFL | (marks & 0xFFFFL) << 32 | (long) next << 48);
     }
 
     void head(long address, int kind, long sector) {
@@ -105,7 +116,7 @@ final class Machine {
         return disk.load(answers + 2, 2);
     }
 
-    /** Checks that the device broke at the first request and left it alone. */
+    /** Checks that the device broke at the first request. */
     void expectBroken(String what) {
         Check.same(what + ": state", disk.read(112), 79);
         Check.same(what + ": causes", disk.read(96), 2);

@@ -21,6 +21,8 @@ final class PlainModel {
     private static final BigInteger END = START.add(BigInteger.valueOf(65536));
 
     private final Map<BigInteger, Integer> memory = new HashMap<>();
+    private final List<Long> touched = new ArrayList<>();
+    private final List<Integer> touchedOnDisk = new ArrayList<>();
     private final int[] sectors;
     private final Map<Integer, Integer> words = new HashMap<>();
     private int size;
@@ -75,6 +77,21 @@ final class PlainModel {
 
     private void setMemoryByte(BigInteger address, int v) {
         memory.put(address, v & 255);
+        touched.add(address.longValue());
+    }
+
+    private void setDiskByte(int place, int v) {
+        sectors[place] = v & 255;
+        touchedOnDisk.add(place);
+    }
+
+    /** Where memory was written, once for each time, so that a look at some can be a look at the right ones. */
+    List<Long> touched() {
+        return touched;
+    }
+
+    List<Integer> touchedOnDisk() {
+        return touchedOnDisk;
     }
 
     private BigInteger number(BigInteger address, int count) throws Broken {
@@ -126,7 +143,7 @@ final class PlainModel {
 
     void setDisk(int place, int v) {
         disk(place);
-        sectors[place] = v & 255;
+        setDiskByte(place, v);
     }
 
     boolean line() {
@@ -257,7 +274,7 @@ final class PlainModel {
                 for (int j = 0; j < data.size(); j++) {
                     int at = sector.intValue() * 512 + j;
                     if (kind == 0) setMemoryByte(data.get(j), sectors[at]);
-                    else sectors[at] = memoryByte(data.get(j));
+                    else setDiskByte(at, memoryByte(data.get(j)));
                 }
                 if (kind == 0) written += data.size();
                 else changed += data.size() / 512;

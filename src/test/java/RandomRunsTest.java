@@ -4,11 +4,14 @@ import java.util.Random;
 public final class RandomRunsTest {
     private static final long START = Machine.START;
     private static final long END = Machine.END;
+    private static final int RUNS = 4000;
+    private static final int CALLS_OF_A_ROUND = 160;
+    private static final int CALLS_AT_THE_END = 150;
     private static final int[] SIZES = {1, 2, 4, 8, 16, 4, 8, 16, 16};
     private static final int[] KINDS = {0, 0, 0, 1, 1, 1, 4, 8, 8, 2, 99, -1};
 
     private final Random dice;
-    private final QueueDisk disk;
+    private final Device disk;
     private final PlainModel model;
     private final String run;
     private final int sectors;
@@ -24,7 +27,7 @@ public final class RandomRunsTest {
         dice = new Random(seed);
         run = "run " + seed + " ";
         sectors = dice.nextInt(4) == 0 ? dice.nextInt(2060) - 5 : 1 + dice.nextInt(80);
-        disk = new QueueDisk(sectors);
+        disk = new Device(sectors);
         model = new PlainModel(sectors);
         perturbed = new int[] {20, 200, 100000}[dice.nextInt(3)];
     }
@@ -33,33 +36,33 @@ public final class RandomRunsTest {
         int answered = 0;
         int broken = 0;
         int changed = 0;
-        for (int seed = 1; seed <= 400; seed++) {
+        for (int seed = 1; seed <= RUNS; seed++) {
             RandomRunsTest r = new RandomRunsTest(seed);
             broken += r.play();
-            answered += r.disk.answered();
-            changed += r.disk.changed();
+            answered += r.model.answered();
+            changed += r.model.changed();
         }
         System.out.println(answered + " requests answered, " + changed + " sectors written, broken " + broken + " times");
-        Check.same("runs that reach far", answered > 2000 && changed > 1000 && broken > 200, true);
+        Check.same("runs that reach far", answered > RUNS && changed > RUNS && broken > RUNS / 2, true);
         Check.end();
     }
 
     private int play() {
         int broken = 0;
         setUp();
-        for (int round = 0; round < 25; round++) {
+        while (disk.callsLeft() > CALLS_OF_A_ROUND + CALLS_AT_THE_END) {
             for (int k = rarely(2) ? 0 : dice.nextInt(3); k >= 0; k--) {
                 chain();
             }
             if (rarely(8)) strayCalls();
             write(80, rarely(20) ? dice.nextInt(3) : 0);
             compare();
-            if ((disk.read(112) & 64) != 0) {
+            if ((model.read(112) & 64) != 0) {
                 broken++;
                 setUp();
             }
         }
-        compareAll();
+        compareAtTheEnd();
         return broken;
     }
 
@@ -116,7 +119,9 @@ public final class RandomRunsTest {
         long head = within(0x1800, 0x700);
         int kind = KINDS[dice.nextInt(KINDS.length)];
         put(head, 4, slip() ? dice.nextInt() : kind);
-        put(head + 8, 8, slip() ? dice.nextLong() : dice.nextInt(Math.max(1, sectors + 2)));
+        int sector = dice.nextInt(Math.max(1, sectors + 2));
+        put(head + 8, 8, slip() ? dice.nextLong() : sector);
+        if (kind == 0) setDisk(512 * sector + dice.nextInt(1024), dice.nextInt());
         // Lengths that together are whole sectors, more often than not.
         int rest = 512 * dice.nextInt(rarely(6) ? 67 : 4);
         for (int k = 0; k < n; k++) {
@@ -138,6 +143,7 @@ public final class RandomRunsTest {
             long at = k == 0 ? head : within(0x2000, 0x3000);
             if (k != 0 && rarely(10)) at = END - length;
             if (slip()) at = near(START, END - length);
+            if (k > 0 && !open && length >= 8) put(at + dice.nextInt(length - 7), 8, dice.nextLong());
             block(number, at, length, marks, next);
         }
         put(offers + 4 + 2L * (offered % size), 2, slip() ? dice.nextInt(size + 2) : first);
@@ -203,7 +209,7 @@ public final class RandomRunsTest {
     private void setDisk(int place, int v) {
         Check.same(run + "setDisk " + place,
             tell(() -> disk.setDisk(place, v)), tell(() -> model.setDisk(place, v)));
-        Check.same(run + "disk " + place, ask(() -> disk.disk(place)), ask(() -> model.disk(place)));
+        look(place);
     }
 
     private void compare() {
@@ -218,15 +224,36 @@ public final class RandomRunsTest {
         }
     }
 
-    private void compareAll() {
-        for (int offset = 0; offset <= 508; offset += 4) {
-            read(offset);
+    /** All calls that are left go to what was written, and to what stands beside it. */
+    private void compareAtTheEnd() {
+        for (int offset = 0; offset <= 256; offset += 4) {
+            if (RegistersTest.atFirst(offset, 1) != 0 || offset == 68 || offset == 96 || offset == 112) read(offset);
         }
-        for (long at = START; at < END; at += 8) {
-            get(at, 8);
+        while (disk.callsLeft() >= 2) {
+            int size = 1 << dice.nextInt(4);
+            get(placeInMemory() - dice.nextInt(size), size);
+            look(model.touchedOnDisk().isEmpty() || rarely(5) ? dice.nextInt(512) : placeOnDisk());
         }
-        for (int place = 0; place < 512 * disk.read(256); place++) {
-            Check.same(run + "disk " + place, disk.disk(place), model.disk(place));
+    }
+
+    /** A place that was written, and more often than not one that is no 0. */
+    private long placeInMemory() {
+        long at = START;
+        for (int k = 0; k < 8 && model.load(at, 1) == 0; k++) {
+            at = model.touched().get(dice.nextInt(model.touched().size()));
         }
+        return at;
+    }
+
+    private int placeOnDisk() {
+        int at = 0;
+        for (int k = 0; k < 8 && model.disk(at) == 0; k++) {
+            at = model.touchedOnDisk().get(dice.nextInt(model.touchedOnDisk().size()));
+        }
+        return at + dice.nextInt(3) - 1;
+    }
+
+    private void look(int place) {
+        Check.same(run + "disk " + place, ask(() -> disk.disk(place)), ask(() -> model.disk(place)));
     }
 }
